@@ -1,4 +1,7 @@
+import java.lang.reflect.Field;
+import java.lang.reflect.Method;
 import java.util.ArrayList;
+import java.util.Arrays;
 import java.util.List;
 
 /** What the tests share: comparing answers, and ways to fill an object. */
@@ -9,23 +12,25 @@ final class Check {
 
     private static int wrong = 0;
     private static int done = 0;
+    private static String sentence = "";
 
     private Check() {
     }
 
+    /** What is not as due from here on is told with these words of the document. */
+    static void sentence(String words) {
+        sentence = "\"" + words + "\": ";
+    }
+
     static void due(String what, long got, long want) {
-        done++;
-        if (got != want) {
-            wrong++;
-            System.out.println(what + " answered " + got + ", due is " + want);
-        }
+        dueText(what, Long.toString(got), Long.toString(want));
     }
 
     static void dueText(String what, String got, String want) {
         done++;
         if (!got.equals(want)) {
             wrong++;
-            System.out.println(what + " answered " + got + ", due is " + want);
+            System.out.println(sentence + what + " answered " + got + ", due is " + want);
         }
     }
 
@@ -64,7 +69,7 @@ final class Check {
         for (int part = 0; part < x.about(4); part++) {
             s.append(" part ").append(bytes(x, part));
         }
-        for (int i = 0; i < 16; i++) {
+        for (int i = 0; i < x.about(5); i++) {
             s.append(" heap ").append(heap(x, i));
         }
         return s.append(" latest ").append(latest(x)).toString();
@@ -72,7 +77,8 @@ final class Check {
 
     static String bytes(TextParts x, int part) {
         List<Integer> all = new ArrayList<>();
-        for (int i = 0; i < x.length(part); i++) {
+        int length = x.length(part);
+        for (int i = 0; i < length; i++) {
             all.add(x.byteOf(part, i));
         }
         return all.toString();
@@ -80,8 +86,8 @@ final class Check {
 
     static String latest(TextParts x) {
         List<Integer> all = new ArrayList<>();
-        for (int i = 0; x.unit(i) != TextParts.NONE; i++) {
-            all.add(x.unit(i));
+        for (int unit = x.unit(0); unit != TextParts.NONE; unit = x.unit(all.size())) {
+            all.add(unit);
         }
         return all.toString();
     }
@@ -102,9 +108,37 @@ final class Check {
         }
     }
 
+    /**
+     * Makes the text longer than put() does, from within: what the document says of more than 255
+     * parts lies beyond its 3000 units, and no run of calls comes there.
+     */
+    static void putManyWithin(TextParts x, int unit, int times) {
+        try {
+            Field textField = TextParts.class.getDeclaredField("text");
+            textField.setAccessible(true);
+            Object text = textField.get(x);
+            Field units = text.getClass().getDeclaredField("units");
+            units.setAccessible(true);
+            units.set(text, Arrays.copyOf((int[]) units.get(text), x.about(2) + times));
+            Method append = text.getClass().getDeclaredMethod("append", int.class);
+            append.setAccessible(true);
+            for (int k = 0; k < times; k++) {
+                append.invoke(text, unit);
+            }
+        } catch (ReflectiveOperationException e) {
+            throw new IllegalStateException("Check no longer knows how TextParts holds its text", e);
+        }
+    }
+
+    /** As few calls as may be: eight bytes at a time. */
     static void feedAll(TextParts x, int... bytes) {
-        for (int b : bytes) {
-            x.feed(b, 1);
+        for (int from = 0; from < bytes.length; from += 8) {
+            int n = Math.min(8, bytes.length - from);
+            long w = 0L;
+            for (int k = 0; k < n; k++) {
+                w |= (long) bytes[from + k] << (8 * k);
+            }
+            x.feed(w, n);
         }
     }
 
@@ -116,5 +150,33 @@ final class Check {
     /** Reads a part by pairs, with a header, whose text is one unit. */
     static int readHeaded(TextParts x, int sender, int reference, int parts, int number, int unit) {
         return readAll(x, sender, 5, 8, 5, 0, 3, reference, parts, number, unit >> 8, unit & 255);
+    }
+
+    /** The bytes of sevens, packed bit by bit. */
+    static int[] packed(int... sevens) {
+        int[] bytes = new int[(7 * sevens.length + 7) / 8];
+        for (int bit = 0; bit < 7 * sevens.length; bit++) {
+            bytes[bit / 8] |= (sevens[bit / 7] >> (bit % 7) & 1) << (bit % 8);
+        }
+        return bytes;
+    }
+
+    /** A part of bytes that are all 0 behind the first two. */
+    static int[] zeros(int first, int second, int following) {
+        int[] part = new int[2 + following];
+        part[0] = first;
+        part[1] = second;
+        return part;
+    }
+
+    static int[] joined(int[] front, int... rest) {
+        int[] both = Arrays.copyOf(front, front.length + rest.length);
+        System.arraycopy(rest, 0, both, front.length, rest.length);
+        return both;
+    }
+
+    /** A header by pairs or by the alphabet, with no text; how many bytes or sevens there are comes first. */
+    static int[] header(int first, int second, int reference, int parts, int number) {
+        return new int[] {first, second, 5, 0, 3, reference, parts, number};
     }
 }
