@@ -17,9 +17,25 @@ final class Check {
     private Check() {
     }
 
-    /** What is not as due from here on is told with these words of the document. */
-    static void sentence(String words) {
+    /** The test of one sentence of the document: what is not as due in it is told with the sentence. */
+    static void sentence(String words, Runnable test) {
         sentence = "\"" + words + "\": ";
+        try {
+            test.run();
+        } catch (RuntimeException e) {
+            dueText("a call that may not throw, at " + placeOf(e), e.toString(), "no exception");
+        }
+        sentence = "";
+    }
+
+    /** The line of the test itself, which is the last one outside this class and the tested one. */
+    private static String placeOf(RuntimeException e) {
+        for (StackTraceElement at : e.getStackTrace()) {
+            if (at.getClassName().endsWith("Test")) {
+                return at.toString();
+            }
+        }
+        return "an unknown place";
     }
 
     static void due(String what, long got, long want) {
@@ -86,7 +102,8 @@ final class Check {
 
     static String latest(TextParts x) {
         List<Integer> all = new ArrayList<>();
-        for (int unit = x.unit(0); unit != TextParts.NONE; unit = x.unit(all.size())) {
+        // A unit() that is wrong might never answer NONE.
+        for (int unit = x.unit(0); unit != TextParts.NONE && all.size() < 5000; unit = x.unit(all.size())) {
             all.add(unit);
         }
         return all.toString();

@@ -10,41 +10,54 @@ public final class EdgesOfPromisesTest {
     private static final int HIGHEST = Integer.MAX_VALUE;
 
     public static void main(String[] args) {
-        newObject();
-        putOfWhatIsNoUnit();
-        putToFull();
-        clear();
-        aboutSevens();
-        aboutParts();
-        aboutWhat();
-        makeOfNoText();
-        makeInPlace();
-        makeUsesAReference();
-        makeOfMoreThan255();
-        lengthFromZeroOn();
-        byteOfBehind();
-        byteOfNoPart();
-        takeAnswers();
-        takeFaults();
-        takeOfNoSender();
-        takeOfNoPart();
-        alterOfNoPartOrByte();
-        alterToNoByte();
-        feedOfNone();
-        feedOfHowMany();
-        feedTheLowestFirst();
-        feedToFull();
-        readAndGone();
-        readOfNone();
-        readOfNoSender();
-        unitBehind();
-        unitOfNoText();
-        heapInOrder();
-        heapOfNone();
-        heapWhat();
-        forgetHowMany();
-        forgetOfNone();
-        forgetOfNoSender();
+        Check.sentence("No text, no parts, an empty inbox, reference 0", EdgesOfPromisesTest::newObject);
+        Check.sentence("put: IllegalArgumentException: it is not 0 .. 65535", EdgesOfPromisesTest::putOfWhatIsNoUnit);
+        Check.sentence("put: IllegalStateException: there are 3000", EdgesOfPromisesTest::putToFull);
+        Check.sentence("clear: The text is empty: how many units there were", EdgesOfPromisesTest::clear);
+        Check.sentence("How many sevens the text takes (NONE if not all is in the alphabet)",
+                EdgesOfPromisesTest::aboutSevens);
+        Check.sentence("how many parts its message would have (0 if more than 255)", EdgesOfPromisesTest::aboutParts);
+        Check.sentence("about: IllegalArgumentException (a what that is none of 0 to 7)",
+                EdgesOfPromisesTest::aboutWhat);
+        Check.sentence("make: The text's message becomes the parts made: how many (of an empty text)",
+                EdgesOfPromisesTest::makeOfNoText);
+        Check.sentence("make: in place of those before", EdgesOfPromisesTest::makeInPlace);
+        Check.sentence("make: a reference is used if there are headers", EdgesOfPromisesTest::makeUsesAReference);
+        Check.sentence("make: UnsupportedOperationException: more than 255", EdgesOfPromisesTest::makeOfMoreThan255);
+        Check.sentence("length: How many bytes a part made has (from 0 on). IllegalArgumentException",
+                EdgesOfPromisesTest::lengthFromZeroOn);
+        Check.sentence("byteOf: Byte i of a part made; NONE behind it", EdgesOfPromisesTest::byteOfBehind);
+        Check.sentence("byteOf: IllegalArgumentException: there is no such part", EdgesOfPromisesTest::byteOfNoPart);
+        Check.sentence("take: 0 if it is kept or dropped, 1 if a text is done by it", EdgesOfPromisesTest::takeAnswers);
+        Check.sentence("take: or the FAULT, below 0", EdgesOfPromisesTest::takeFaults);
+        Check.sentence("take: IllegalArgumentException (a sender that is not 0 .. 999)",
+                EdgesOfPromisesTest::takeOfNoSender);
+        Check.sentence("take: IllegalArgumentException (no such part)", EdgesOfPromisesTest::takeOfNoPart);
+        Check.sentence("alter: IllegalArgumentException (no such part or byte)",
+                EdgesOfPromisesTest::alterOfNoPartOrByte);
+        Check.sentence("alter: IllegalArgumentException (a byte that is not 0 .. 255)",
+                EdgesOfPromisesTest::alterToNoByte);
+        Check.sentence("feed: n bytes come behind those at hand (n = 0)", EdgesOfPromisesTest::feedOfNone);
+        Check.sentence("feed: IllegalArgumentException: n is not 0 .. 8", EdgesOfPromisesTest::feedOfHowMany);
+        Check.sentence("feed: n bytes, the lowest of w first", EdgesOfPromisesTest::feedTheLowestFirst);
+        Check.sentence("feed: IllegalStateException: there would be more than 200", EdgesOfPromisesTest::feedToFull);
+        Check.sentence("read: The bytes at hand are read as a part of a sender, and are gone",
+                EdgesOfPromisesTest::readAndGone);
+        Check.sentence("read: The bytes at hand are read (with none at hand)", EdgesOfPromisesTest::readOfNone);
+        Check.sentence("read: IllegalArgumentException (a sender that is not 0 .. 999)",
+                EdgesOfPromisesTest::readOfNoSender);
+        Check.sentence("unit: Unit i of the latest text that was done; NONE behind it",
+                EdgesOfPromisesTest::unitBehind);
+        Check.sentence("unit: NONE (where no text was done yet)", EdgesOfPromisesTest::unitOfNoText);
+        Check.sentence("heap: Of heap i, the one begun first of all first: its sender, reference, how many parts, how "
+                + "many of them are there",
+                EdgesOfPromisesTest::heapInOrder);
+        Check.sentence("heap: NONE if there is none", EdgesOfPromisesTest::heapOfNone);
+        Check.sentence("heap: IllegalArgumentException: what is none of these", EdgesOfPromisesTest::heapWhat);
+        Check.sentence("forget: All heaps of a sender are gone: how many", EdgesOfPromisesTest::forgetHowMany);
+        Check.sentence("forget: how many (of a sender without one)", EdgesOfPromisesTest::forgetOfNone);
+        Check.sentence("forget: IllegalArgumentException (a sender that is not 0 .. 999)",
+                EdgesOfPromisesTest::forgetOfNoSender);
         Check.finish("EdgesOfPromisesTest");
     }
 
@@ -61,8 +74,15 @@ public final class EdgesOfPromisesTest {
         return x;
     }
 
+    /** One part made, where before there were two. */
+    private static TextParts withOnePartLess() {
+        TextParts x = withTwoParts();
+        x.clear();
+        x.make();
+        return x;
+    }
+
     private static void newObject() {
-        Check.sentence("No text, no parts, an empty inbox, reference 0");
         TextParts x = new TextParts();
         Check.dueText("all that a new object tells", Check.state(x), "about 0 1 0 0 0 0 0 0 latest []");
         Check.refused("length(0)", ARGUMENT, () -> x.length(0));
@@ -75,7 +95,6 @@ public final class EdgesOfPromisesTest {
     }
 
     private static void putOfWhatIsNoUnit() {
-        Check.sentence("put: IllegalArgumentException: it is not 0 .. 65535");
         TextParts x = new TextParts();
         for (int wrong : new int[] {-1, 65536, LOWEST, HIGHEST}) {
             Check.refused("put(" + wrong + ")", ARGUMENT, () -> x.put(wrong));
@@ -87,7 +106,6 @@ public final class EdgesOfPromisesTest {
     }
 
     private static void putToFull() {
-        Check.sentence("put: IllegalStateException: there are 3000");
         TextParts x = withUnits(97, 2998);
         Check.due("unit number 2999", x.put(97), 2999);
         Check.due("unit number 3000", x.put(97), 3000);
@@ -99,7 +117,6 @@ public final class EdgesOfPromisesTest {
     }
 
     private static void clear() {
-        Check.sentence("clear: The text is empty: how many units there were");
         TextParts x = new TextParts();
         Check.due("clear() of an empty text", x.clear(), 0);
         x.put(97);
@@ -116,7 +133,6 @@ public final class EdgesOfPromisesTest {
     }
 
     private static void aboutSevens() {
-        Check.sentence("How many sevens the text takes (NONE if not all is in the alphabet)");
         TextParts x = new TextParts();
         Check.due("about(0) of no text", x.about(0), 0);
         Check.puts(x, 97, 8364);
@@ -141,7 +157,6 @@ public final class EdgesOfPromisesTest {
     }
 
     private static void aboutParts() {
-        Check.sentence("how many parts its message would have (0 if more than 255)");
         Check.due("about(1) of no text", new TextParts().about(1), 1);
         Check.due("about(1) of 160 sevens", withUnits(97, 160).about(1), 1);
         Check.due("about(1) of 161 sevens", withUnits(97, 161).about(1), 2);
@@ -155,7 +170,6 @@ public final class EdgesOfPromisesTest {
     }
 
     private static void aboutWhat() {
-        Check.sentence("about: IllegalArgumentException (a what that is none of 0 to 7)");
         TextParts x = withTwoParts();
         x.take(1, 0);
         Check.readAll(x, 2, 4, 6, 0, 1, 0, 2, 0, 3);
@@ -172,7 +186,6 @@ public final class EdgesOfPromisesTest {
     }
 
     private static void makeOfNoText() {
-        Check.sentence("make: The text's message becomes the parts made: how many (of an empty text)");
         TextParts x = new TextParts();
         Check.due("make()", x.make(), 1);
         Check.due("parts made", x.about(4), 1);
@@ -186,7 +199,6 @@ public final class EdgesOfPromisesTest {
     }
 
     private static void makeInPlace() {
-        Check.sentence("make: in place of those before");
         TextParts x = withUnits(252, 320);
         Check.due("make()", x.make(), 3);
         x.clear();
@@ -207,7 +219,6 @@ public final class EdgesOfPromisesTest {
     }
 
     private static void makeUsesAReference() {
-        Check.sentence("make: a reference is used if there are headers");
         TextParts x = withUnits(97, 160);
         x.make();
         Check.due("the next reference behind 160 sevens", x.about(3), 0);
@@ -228,7 +239,6 @@ public final class EdgesOfPromisesTest {
     }
 
     private static void makeOfMoreThan255() {
-        Check.sentence("make: UnsupportedOperationException: more than 255");
         TextParts x = new TextParts();
         Check.putManyWithin(x, 1000, 255 * 67);
         Check.due("make() of 255", x.make(), 255);
@@ -241,7 +251,6 @@ public final class EdgesOfPromisesTest {
     }
 
     private static void lengthFromZeroOn() {
-        Check.sentence("length: How many bytes a part made has (from 0 on). IllegalArgumentException");
         TextParts x = new TextParts();
         Check.refused("length(0) of none", ARGUMENT, () -> x.length(0));
         x.make();
@@ -253,6 +262,8 @@ public final class EdgesOfPromisesTest {
         for (int wrong : new int[] {-1, 2, 255, 256, LOWEST, HIGHEST}) {
             Check.refused("length(" + wrong + ")", ARGUMENT, () -> y.length(wrong));
         }
+        TextParts less = withOnePartLess();
+        Check.refused("length(1) of a part of the message before", ARGUMENT, () -> less.length(1));
         int[][] due = {{159, 142}, {160, 142}, {152, 135}, {153, 136}, {8, 9}, {7, 9}, {1, 3}};
         for (int[] row : due) {
             TextParts z = withUnits(97, row[0]);
@@ -262,7 +273,6 @@ public final class EdgesOfPromisesTest {
     }
 
     private static void byteOfBehind() {
-        Check.sentence("byteOf: Byte i of a part made; NONE behind it");
         TextParts x = withTwoParts();
         Check.due("byteOf(0, 0)", x.byteOf(0, 0), 5);
         Check.due("byteOf(0, 141)", x.byteOf(0, 141), 232);
@@ -278,7 +288,6 @@ public final class EdgesOfPromisesTest {
     }
 
     private static void byteOfNoPart() {
-        Check.sentence("byteOf: IllegalArgumentException: there is no such part");
         TextParts x = new TextParts();
         Check.refused("byteOf(0, 0) of none", ARGUMENT, () -> x.byteOf(0, 0));
         TextParts y = withTwoParts();
@@ -287,10 +296,11 @@ public final class EdgesOfPromisesTest {
             Check.refused("byteOf(" + wrong + ", 0)", ARGUMENT, () -> y.byteOf(wrong, 0));
             Check.refused("byteOf(" + wrong + ", 200)", ARGUMENT, () -> y.byteOf(wrong, 200));
         }
+        TextParts less = withOnePartLess();
+        Check.refused("byteOf(1, 0) of a part of the message before", ARGUMENT, () -> less.byteOf(1, 0));
     }
 
     private static void takeAnswers() {
-        Check.sentence("take: 0 if it is kept or dropped, 1 if a text is done by it");
         TextParts x = withTwoParts();
         Check.due("kept", x.take(1, 1), 0);
         Check.due("units of the latest text", x.about(6), 0);
@@ -307,7 +317,6 @@ public final class EdgesOfPromisesTest {
     }
 
     private static void takeFaults() {
-        Check.sentence("take: or the FAULT, below 0");
         // Place, byte and fault; the part is one by pairs, with a header. None made has less than two bytes.
         int[][] pairs = {{0, 2, -2}, {1, 141, -3}, {1, 139, -3}, {2, 4, -4}, {6, 0, -4}, {7, 3, -4}, {7, 2, 0}};
         for (int[] row : pairs) {
@@ -328,7 +337,6 @@ public final class EdgesOfPromisesTest {
     }
 
     private static void takeOfNoSender() {
-        Check.sentence("take: IllegalArgumentException (a sender that is not 0 .. 999)");
         TextParts x = withTwoParts();
         for (int wrong : new int[] {-1, 1000, LOWEST, HIGHEST}) {
             Check.refused("take(" + wrong + ", 0)", ARGUMENT, () -> x.take(wrong, 0));
@@ -340,7 +348,6 @@ public final class EdgesOfPromisesTest {
     }
 
     private static void takeOfNoPart() {
-        Check.sentence("take: IllegalArgumentException (no such part)");
         TextParts x = new TextParts();
         Check.refused("take(0, 0) of none", ARGUMENT, () -> x.take(0, 0));
         TextParts y = withTwoParts();
@@ -348,12 +355,13 @@ public final class EdgesOfPromisesTest {
             Check.refused("take(0, " + wrong + ")", ARGUMENT, () -> y.take(0, wrong));
         }
         Check.due("heaps", y.about(5), 0);
+        TextParts less = withOnePartLess();
+        Check.refused("take(0, 1) of a part of the message before", ARGUMENT, () -> less.take(0, 1));
         Check.due("take(0, 1)", y.take(0, 1), 0);
         Check.due("take(0, 0)", y.take(0, 0), 1);
     }
 
     private static void alterOfNoPartOrByte() {
-        Check.sentence("alter: IllegalArgumentException (no such part or byte)");
         TextParts none = new TextParts();
         Check.refused("alter(0, 0, 0) of none", ARGUMENT, () -> none.alter(0, 0, 0));
         TextParts x = withTwoParts();
@@ -364,6 +372,9 @@ public final class EdgesOfPromisesTest {
             Check.refused("alter(1, " + wrong + ", 0)", ARGUMENT, () -> x.alter(1, wrong, 0));
         }
         Check.refused("alter(0, 142, 0)", ARGUMENT, () -> x.alter(0, 142, 0));
+        TextParts less = withOnePartLess();
+        Check.refused("alter(1, 0, 0) of a part of the message before", ARGUMENT, () -> less.alter(1, 0, 0));
+        Check.refused("alter(0, 2, 0) of a byte of the message before", ARGUMENT, () -> less.alter(0, 2, 0));
         Check.due("alter(0, 0, 1)", x.alter(0, 0, 1), 5);
         Check.due("alter(0, 141, 2)", x.alter(0, 141, 2), 232);
         Check.due("alter(1, 15, 3)", x.alter(1, 15, 3), 232);
@@ -374,7 +385,6 @@ public final class EdgesOfPromisesTest {
     }
 
     private static void alterToNoByte() {
-        Check.sentence("alter: IllegalArgumentException (a byte that is not 0 .. 255)");
         TextParts x = withUnits(97, 1);
         x.make();
         for (int wrong : new int[] {-1, 256, LOWEST, HIGHEST}) {
@@ -386,7 +396,6 @@ public final class EdgesOfPromisesTest {
     }
 
     private static void feedOfNone() {
-        Check.sentence("feed: n bytes come behind those at hand (n = 0)");
         TextParts x = new TextParts();
         Check.due("feed(-1, 0)", x.feed(-1L, 0), 0);
         Check.due("bytes at hand", x.about(7), 0);
@@ -397,7 +406,6 @@ public final class EdgesOfPromisesTest {
     }
 
     private static void feedOfHowMany() {
-        Check.sentence("feed: IllegalArgumentException: n is not 0 .. 8");
         TextParts x = new TextParts();
         for (int wrong : new int[] {-1, 9, 64, LOWEST, HIGHEST}) {
             Check.refused("feed(0, " + wrong + ")", ARGUMENT, () -> x.feed(0L, wrong));
@@ -411,7 +419,6 @@ public final class EdgesOfPromisesTest {
     }
 
     private static void feedTheLowestFirst() {
-        Check.sentence("feed: n bytes, the lowest of w first");
         TextParts x = new TextParts();
         x.feed(0xFFFFFFFFFFFF0804L, 2);
         x.feed(0x8081FF007F010203L, 8);
@@ -432,7 +439,6 @@ public final class EdgesOfPromisesTest {
     }
 
     private static void feedToFull() {
-        Check.sentence("feed: IllegalStateException: there would be more than 200");
         for (int n = 1; n <= 8; n++) {
             int many = n;
             TextParts x = withBytesAtHand(200 - n);
@@ -450,7 +456,6 @@ public final class EdgesOfPromisesTest {
     }
 
     private static void readAndGone() {
-        Check.sentence("read: The bytes at hand are read as a part of a sender, and are gone");
         TextParts x = new TextParts();
         Check.due("read of a fault", Check.readAll(x, 0, 2, 2, 2), -2);
         Check.due("bytes at hand", x.about(7), 0);
@@ -465,7 +470,6 @@ public final class EdgesOfPromisesTest {
     }
 
     private static void readOfNone() {
-        Check.sentence("read: The bytes at hand are read (with none at hand)");
         TextParts x = new TextParts();
         Check.due("read(0)", x.read(0), -1);
         Check.due("bytes at hand", x.about(7), 0);
@@ -479,7 +483,6 @@ public final class EdgesOfPromisesTest {
     }
 
     private static void readOfNoSender() {
-        Check.sentence("read: IllegalArgumentException (a sender that is not 0 .. 999)");
         TextParts x = new TextParts();
         Check.feedAll(x, Check.header(5, 6, 1, 2, 1));
         for (int wrong : new int[] {-1, 1000, LOWEST, HIGHEST}) {
@@ -493,7 +496,6 @@ public final class EdgesOfPromisesTest {
     }
 
     private static void unitBehind() {
-        Check.sentence("unit: Unit i of the latest text that was done; NONE behind it");
         TextParts x = new TextParts();
         Check.readAll(x, 0, 4, 6, 0, 97, 255, 255, 0, 0);
         Check.due("unit(0)", x.unit(0), 97);
@@ -515,7 +517,6 @@ public final class EdgesOfPromisesTest {
     }
 
     private static void unitOfNoText() {
-        Check.sentence("unit: NONE (where no text was done yet)");
         TextParts x = withTwoParts();
         Check.due("unit(0)", x.unit(0), -1);
         x.take(0, 0);
@@ -532,8 +533,6 @@ public final class EdgesOfPromisesTest {
     }
 
     private static void heapInOrder() {
-        Check.sentence("heap: Of heap i, the one begun first of all first: its sender, reference, "
-                + "how many parts, how many of them are there");
         TextParts x = new TextParts();
         Check.readHeaded(x, 999, 255, 3, 2, 1);
         Check.readHeaded(x, 0, 0, 255, 7, 1);
@@ -554,7 +553,6 @@ public final class EdgesOfPromisesTest {
     }
 
     private static void heapOfNone() {
-        Check.sentence("heap: NONE if there is none");
         TextParts x = new TextParts();
         Check.dueText("heap 0 of none", Check.heap(x, 0), "-1/-1/-1/-1");
         for (int sender = 1; sender <= 15; sender++) {
@@ -572,7 +570,6 @@ public final class EdgesOfPromisesTest {
     }
 
     private static void heapWhat() {
-        Check.sentence("heap: IllegalArgumentException: what is none of these");
         TextParts x = new TextParts();
         Check.readHeaded(x, 30, 20, 10, 1, 1);
         int[] due = {30, 20, 10, 1};
@@ -588,7 +585,6 @@ public final class EdgesOfPromisesTest {
     }
 
     private static void forgetHowMany() {
-        Check.sentence("forget: All heaps of a sender are gone: how many");
         TextParts x = new TextParts();
         Check.readHeaded(x, 4, 0, 2, 1, 1);
         Check.readHeaded(x, 5, 0, 2, 1, 1);
@@ -612,7 +608,6 @@ public final class EdgesOfPromisesTest {
     }
 
     private static void forgetOfNone() {
-        Check.sentence("forget: how many (of a sender without one)");
         TextParts x = new TextParts();
         Check.due("forget(0) of no heap", x.forget(0), 0);
         Check.readHeaded(x, 4, 0, 2, 1, 1);
@@ -627,7 +622,6 @@ public final class EdgesOfPromisesTest {
     }
 
     private static void forgetOfNoSender() {
-        Check.sentence("forget: IllegalArgumentException (a sender that is not 0 .. 999)");
         TextParts x = new TextParts();
         Check.readHeaded(x, 0, 0, 2, 1, 1);
         Check.readHeaded(x, 999, 0, 2, 1, 1);

@@ -9,35 +9,52 @@ public final class EdgesOfTermsTest {
     private static final Class<IllegalStateException> STATE = IllegalStateException.class;
 
     public static void main(String[] args) {
-        sevensThatAreNone();
-        escapesWithASevenThatIsNone();
-        escapesAtTheEnd();
-        bitsThatAreLeft();
-        onePart();
-        partsWithHeaders();
-        togetherByTheAlphabet();
-        togetherByPairs();
-        partsAtMost();
-        theBitBetween();
-        references();
-        fault1();
-        fault2();
-        fault3BySevens();
-        fault3ByPairs();
-        fault4NotWhole();
-        fault4FirstThree();
-        fault4Numbers();
-        fault5();
-        fault6AtTheEnd();
-        fault6Between();
-        theFirstFault();
-        aPartThatIsThere();
-        theHeapThatGivesWay();
-        nothingGivesWayBelowSixteen();
-        whatCountsAsPut();
-        callsThatThrow();
-        fullCallsThatThrow();
-        throwingIsNotPutting();
+        Check.sentence("READ back, a seven that is none of these is 63", EdgesOfTermsTest::sevensThatAreNone);
+        Check.sentence("an escape with a seven that is none of these is that of the seven alone",
+                EdgesOfTermsTest::escapesWithASevenThatIsNone);
+        Check.sentence("an escape at the end is 32", EdgesOfTermsTest::escapesAtTheEnd);
+        Check.sentence("in as few bytes as hold them; bits that are left are 0", EdgesOfTermsTest::bitsThatAreLeft);
+        Check.sentence("One PART if it is not more than 160 sevens, or 140 bytes", EdgesOfTermsTest::onePart);
+        Check.sentence("otherwise parts with HEADERS, each as long as may be, but not more than 153 sevens or 134 "
+                + "bytes",
+                EdgesOfTermsTest::partsWithHeaders);
+        Check.sentence("cut so that what belongs together stays so (an escape and its seven)",
+                EdgesOfTermsTest::togetherByTheAlphabet);
+        Check.sentence("what belongs together with pairs are a unit 55296 .. 56319 and one 56320 .. 57343 behind it",
+                EdgesOfTermsTest::togetherByPairs);
+        Check.sentence("255 parts at most", EdgesOfTermsTest::partsAtMost);
+        Check.sentence("the sevens behind a header begin at bit 49 of the contents, the bit between is 0",
+                EdgesOfTermsTest::theBitBetween);
+        Check.sentence("References are 0, 1, .. and 0 again behind 255, of each message in parts one more",
+                EdgesOfTermsTest::references);
+        Check.sentence("1: there are less than two bytes", EdgesOfTermsTest::fault1);
+        Check.sentence("2: the first one is none of 0, 1, 4, 5", EdgesOfTermsTest::fault2);
+        Check.sentence("3: the second one is above 160 sevens, or not just as many bytes follow as that needs",
+                EdgesOfTermsTest::fault3BySevens);
+        Check.sentence("3: the second one is above 140 bytes, or not just as many bytes follow as that needs",
+                EdgesOfTermsTest::fault3ByPairs);
+        Check.sentence("4: with a header, it is not whole", EdgesOfTermsTest::fault4NotWhole);
+        Check.sentence("4: the first three are not 5, 0, 3", EdgesOfTermsTest::fault4FirstThree);
+        Check.sentence("4: there are 0 parts, the part is 0 or above how many there are",
+                EdgesOfTermsTest::fault4Numbers);
+        Check.sentence("5: by pairs, an odd number of bytes of text", EdgesOfTermsTest::fault5);
+        Check.sentence("6: bits that are left at the end are not 0", EdgesOfTermsTest::fault6AtTheEnd);
+        Check.sentence("6: bits .. that between, are not 0", EdgesOfTermsTest::fault6Between);
+        Check.sentence("READING a part of a sender, the first FAULT that fits", EdgesOfTermsTest::theFirstFault);
+        Check.sentence("with a number that is not in it, is put there; one that is there already is dropped",
+                EdgesOfTermsTest::aPartThatIsThere);
+        Check.sentence("One without a heap begins one; in place of the one to which nothing was put for longest, if "
+                + "there are 16",
+                EdgesOfTermsTest::theHeapThatGivesWay);
+        Check.sentence("in place of the one .., if there are 16 (and no other time)",
+                EdgesOfTermsTest::nothingGivesWayBelowSixteen);
+        Check.sentence("the one to which nothing was put for longest (what is dropped or has a fault is not put)",
+                EdgesOfTermsTest::whatCountsAsPut);
+        Check.sentence("A call that throws changes nothing", EdgesOfTermsTest::callsThatThrow);
+        Check.sentence("A call that throws changes nothing (where there is too much)",
+                EdgesOfTermsTest::fullCallsThatThrow);
+        Check.sentence("A call that throws changes nothing (nor which heap gives way)",
+                EdgesOfTermsTest::throwingIsNotPutting);
         Check.finish("EdgesOfTermsTest");
     }
 
@@ -64,7 +81,6 @@ public final class EdgesOfTermsTest {
     }
 
     private static void sevensThatAreNone() {
-        Check.sentence("READ back, a seven that is none of these is 63");
         for (int none : new int[] {6, 7, 8, 9, 11, 12, 14, 15, 16, 18, 26, 28, 29, 30, 31, 36, 64, 91, 92, 93, 94, 96,
             125, 127}) {
             Check.dueText("seven " + none, readBack(none), "[63]");
@@ -79,7 +95,6 @@ public final class EdgesOfTermsTest {
     }
 
     private static void escapesWithASevenThatIsNone() {
-        Check.sentence("an escape with a seven that is none of these is that of the seven alone");
         int[][] known = {{20, 94}, {40, 123}, {41, 125}, {47, 92}, {60, 91}, {61, 126}, {62, 93}, {64, 124}, {101, 8364}};
         for (int[] row : known) {
             Check.dueText("an escape with " + row[0], readBack(27, row[0], 65), "[" + row[1] + ", 65]");
@@ -96,7 +111,6 @@ public final class EdgesOfTermsTest {
     }
 
     private static void escapesAtTheEnd() {
-        Check.sentence("an escape at the end is 32");
         Check.dueText("an escape alone", readBack(27), "[32]");
         Check.dueText("an escape behind another seven", readBack(65, 27), "[65, 32]");
         Check.dueText("an escape behind one that has its seven", readBack(27, 40, 27), "[123, 32]");
@@ -117,7 +131,6 @@ public final class EdgesOfTermsTest {
     }
 
     private static void bitsThatAreLeft() {
-        Check.sentence("in as few bytes as hold them; bits that are left are 0");
         TextParts x = new TextParts();
         // The row of bytes was full of other bits before.
         Check.putMany(x, 252, 16);
@@ -142,7 +155,6 @@ public final class EdgesOfTermsTest {
     }
 
     private static void onePart() {
-        Check.sentence("One PART if it is not more than 160 sevens, or 140 bytes");
         int[][] plain = {{0, 1}, {1, 1}, {159, 1}, {160, 1}, {161, 2}};
         for (int[] row : plain) {
             partsDue(withUnits(97, row[0]), row[0] + " sevens", row[1], 0);
@@ -173,7 +185,6 @@ public final class EdgesOfTermsTest {
     }
 
     private static void partsWithHeaders() {
-        Check.sentence("otherwise parts with HEADERS, each as long as may be, but not more than 153 sevens or 134 bytes");
         sizesDue(withUnits(97, 161), "161 sevens", 7 + 153, 7 + 8);
         sizesDue(withUnits(97, 305), "305 sevens", 7 + 153, 7 + 152);
         sizesDue(withUnits(97, 306), "306 sevens", 7 + 153, 7 + 153);
@@ -198,7 +209,6 @@ public final class EdgesOfTermsTest {
     }
 
     private static void togetherByTheAlphabet() {
-        Check.sentence("cut so that what belongs together stays so (an escape and its seven)");
         int[][] due = {{150, 160}, {151, 160}, {152, 159}, {153, 160}};
         for (int[] row : due) {
             TextParts x = withUnits(97, row[0]);
@@ -206,6 +216,12 @@ public final class EdgesOfTermsTest {
             Check.putMany(x, 97, 10);
             int all = row[0] + 12 + 14;
             sizesDue(x, row[0] + " sevens before an escape", row[1], all - row[1]);
+            x.take(0, 0);
+            Check.due("both parts are taken", x.take(0, 1), 1);
+            Check.due("units of the text", x.about(6), row[0] + 11);
+            Check.due("the unit with the escape", x.unit(row[0]), 8364);
+            Check.due("the one before it", x.unit(row[0] - 1), 97);
+            Check.due("the one behind it", x.unit(row[0] + 1), 97);
         }
         sizesDue(withUnits(8364, 152), "152 escapes", 159, 159);
         sizesDue(withUnits(8364, 153), "153 escapes", 159, 159, 9);
@@ -218,7 +234,6 @@ public final class EdgesOfTermsTest {
     }
 
     private static void togetherByPairs() {
-        Check.sentence("what belongs together with pairs are a unit 55296 .. 56319 and one 56320 .. 57343 behind it");
         // The units on both sides of where 67 would end, and how many the first part has.
         int[][] due = {{55296, 56320, 66}, {56319, 56320, 66}, {55296, 57343, 66}, {56319, 57343, 66},
             {55295, 56320, 67}, {56320, 56320, 67}, {55296, 56319, 67}, {55296, 57344, 67}, {56320, 55296, 67},
@@ -246,7 +261,6 @@ public final class EdgesOfTermsTest {
     }
 
     private static void partsAtMost() {
-        Check.sentence("255 parts at most");
         int[][] due = {{97, 153}, {8364, 76}, {1000, 67}};
         for (int[] row : due) {
             TextParts x = new TextParts();
@@ -262,7 +276,6 @@ public final class EdgesOfTermsTest {
     }
 
     private static void theBitBetween() {
-        Check.sentence("the sevens behind a header begin at bit 49 of the contents, the bit between is 0");
         int[][] due = {{64, 0}, {163, 1}, {97, 97}, {252, 126}};
         for (int[] row : due) {
             TextParts x = withUnits(row[0], 161);
@@ -276,7 +289,6 @@ public final class EdgesOfTermsTest {
     }
 
     private static void references() {
-        Check.sentence("References are 0, 1, .. and 0 again behind 255, of each message in parts one more");
         TextParts x = withUnits(1000, 71);
         for (int k = 0; k < 258; k++) {
             x.make();
@@ -292,7 +304,6 @@ public final class EdgesOfTermsTest {
     }
 
     private static void fault1() {
-        Check.sentence("1: there are less than two bytes");
         Check.due("no byte", answer(), -1);
         for (int only : new int[] {0, 1, 4, 5}) {
             Check.due("byte " + only + " alone", answer(only), -1);
@@ -302,7 +313,6 @@ public final class EdgesOfTermsTest {
     }
 
     private static void fault2() {
-        Check.sentence("2: the first one is none of 0, 1, 4, 5");
         for (int first = 0; first < 256; first++) {
             boolean known = first == 0 || first == 1 || first == 4 || first == 5;
             Check.due("a first byte " + first, answer(first, 0) == -2 ? 1 : 0, known ? 0 : 1);
@@ -310,7 +320,6 @@ public final class EdgesOfTermsTest {
     }
 
     private static void fault3BySevens() {
-        Check.sentence("3: the second one is above 160 sevens, or not just as many bytes follow as that needs");
         for (int sevens = 0; sevens <= 160; sevens++) {
             int needed = sevens - sevens / 8;
             Check.due(sevens + " sevens in " + needed + " bytes", answer(Check.zeros(0, sevens, needed)), 1);
@@ -331,7 +340,6 @@ public final class EdgesOfTermsTest {
     }
 
     private static void fault3ByPairs() {
-        Check.sentence("3: the second one is above 140 bytes, or not just as many bytes follow as that needs");
         for (int bytes = 0; bytes <= 140; bytes += 2) {
             Check.due(bytes + " bytes", answer(Check.zeros(4, bytes, bytes)), 1);
             Check.due(bytes + " bytes and one more", answer(Check.zeros(4, bytes, bytes + 1)), -3);
@@ -351,7 +359,6 @@ public final class EdgesOfTermsTest {
     }
 
     private static void fault4NotWhole() {
-        Check.sentence("4: with a header, it is not whole");
         int[] pairs = Check.header(5, 6, 0, 2, 1);
         Check.due("6 bytes by pairs", answer(pairs), 0);
         for (int bytes = 0; bytes < 6; bytes++) {
@@ -378,7 +385,6 @@ public final class EdgesOfTermsTest {
     }
 
     private static void fault4FirstThree() {
-        Check.sentence("4: the first three are not 5, 0, 3");
         int[] known = {5, 0, 3};
         for (int k = 0; k < known.length; k++) {
             for (int b = 0; b < 256; b++) {
@@ -390,7 +396,6 @@ public final class EdgesOfTermsTest {
     }
 
     private static void fault4Numbers() {
-        Check.sentence("4: there are 0 parts, the part is 0 or above how many there are");
         int[][] due = {{0, 0, -4}, {0, 1, -4}, {1, 0, -4}, {1, 1, 1}, {1, 2, -4}, {2, 0, -4}, {2, 1, 0}, {2, 2, 0},
             {2, 3, -4}, {254, 254, 0}, {254, 255, -4}, {255, 0, -4}, {255, 1, 0}, {255, 255, 0}};
         for (int[] row : due) {
@@ -402,7 +407,6 @@ public final class EdgesOfTermsTest {
     }
 
     private static void fault5() {
-        Check.sentence("5: by pairs, an odd number of bytes of text");
         for (int bytes = 0; bytes <= 140; bytes++) {
             Check.due(bytes + " bytes", answer(Check.zeros(4, bytes, bytes)), bytes % 2 == 0 ? 1 : -5);
         }
@@ -414,7 +418,6 @@ public final class EdgesOfTermsTest {
     }
 
     private static void fault6AtTheEnd() {
-        Check.sentence("6: bits that are left at the end are not 0");
         for (int sevens = 1; sevens <= 160; sevens++) {
             int bytes = sevens - sevens / 8;
             int left = 8 * bytes - 7 * sevens;
@@ -438,7 +441,6 @@ public final class EdgesOfTermsTest {
     }
 
     private static void fault6Between() {
-        Check.sentence("6: bits .. that between, are not 0");
         int[][] due = {{0, 0}, {1, -6}, {2, 0}, {3, -6}, {254, 0}, {255, -6}};
         for (int[] row : due) {
             Check.due("byte " + row[0] + " behind a header",
@@ -450,7 +452,6 @@ public final class EdgesOfTermsTest {
     }
 
     private static void theFirstFault() {
-        Check.sentence("READING a part of a sender, the first FAULT that fits");
         Check.due("1 and 2", answer(9), -1);
         Check.due("2 and 3", answer(2, 161), -2);
         Check.due("2 and 4", answer(7, 6, 5, 0, 3, 0, 0, 0), -2);
@@ -471,7 +472,6 @@ public final class EdgesOfTermsTest {
     }
 
     private static void aPartThatIsThere() {
-        Check.sentence("with a number that is not in it, is put there; one that is there already is dropped");
         TextParts x = new TextParts();
         Check.due("part 2", Check.readHeaded(x, 5, 6, 3, 2, 20), 0);
         Check.due("part 2 again", Check.readHeaded(x, 5, 6, 3, 2, 21), 0);
@@ -509,8 +509,6 @@ public final class EdgesOfTermsTest {
     }
 
     private static void theHeapThatGivesWay() {
-        Check.sentence("One without a heap begins one; in place of the one to which nothing was put for longest, "
-                + "if there are 16");
         TextParts x = withHeaps(16);
         Check.dueText("16 heaps", senders(x), "0 1 2 3 4 5 6 7 8 9 10 11 12 13 14 15");
         Check.due("a part of a seventeenth", Check.readHeaded(x, 16, 0, 3, 1, 1), 0);
@@ -532,7 +530,6 @@ public final class EdgesOfTermsTest {
     }
 
     private static void nothingGivesWayBelowSixteen() {
-        Check.sentence("in place of the one .., if there are 16 (and no other time)");
         TextParts x = withHeaps(15);
         Check.readHeaded(x, 15, 0, 3, 1, 1);
         Check.due("the sixteenth takes no other's place", x.about(5), 16);
@@ -551,7 +548,6 @@ public final class EdgesOfTermsTest {
     }
 
     private static void whatCountsAsPut() {
-        Check.sentence("the one to which nothing was put for longest (what is dropped or has a fault is not put)");
         TextParts x = withHeaps(16);
         Check.due("what is there already", Check.readHeaded(x, 0, 0, 3, 1, 2), 0);
         Check.due("what has a fault", Check.readAll(x, 0, 5, 7, 5, 0, 3, 0, 3, 2, 1), -5);
@@ -582,7 +578,6 @@ public final class EdgesOfTermsTest {
     }
 
     private static void callsThatThrow() {
-        Check.sentence("A call that throws changes nothing");
         TextParts x = withSomeOfAll();
         int last = Integer.MAX_VALUE;
         Check.Call[] wrong = {() -> x.put(-1), () -> x.put(65536), () -> x.about(-1), () -> x.about(8),
@@ -599,7 +594,6 @@ public final class EdgesOfTermsTest {
     }
 
     private static void fullCallsThatThrow() {
-        Check.sentence("A call that throws changes nothing (where there is too much)");
         TextParts hand = new TextParts();
         Check.feedAll(hand, Check.zeros(4, 140, 193));
         Check.refused("feed of 6 to 195", STATE, () -> hand.feed(-1L, 6));
@@ -624,7 +618,6 @@ public final class EdgesOfTermsTest {
     }
 
     private static void throwingIsNotPutting() {
-        Check.sentence("A call that throws changes nothing (nor which heap gives way)");
         TextParts x = withHeaps(16);
         Check.feedAll(x, Check.header(5, 6, 0, 3, 2));
         Check.refused("read(1000)", ARGUMENT, () -> x.read(1000));
