@@ -31,7 +31,8 @@ final class Check {
     /** The line of the test itself, which is the last one outside this class and the tested one. */
     private static String placeOf(RuntimeException e) {
         for (StackTraceElement at : e.getStackTrace()) {
-            if (at.getClassName().endsWith("Test")) {
+            String name = at.getClassName();
+            if (!name.equals("Check") && !name.startsWith("TextParts") && !name.startsWith("java.")) {
                 return at.toString();
             }
         }

@@ -1,43 +1,110 @@
 import java.lang.reflect.Constructor;
+import java.lang.reflect.Executable;
 import java.lang.reflect.Field;
+import java.lang.reflect.Member;
 import java.lang.reflect.Method;
 import java.lang.reflect.Modifier;
-import java.util.Arrays;
+import java.util.ArrayList;
+import java.util.List;
 import java.util.Set;
 import java.util.TreeSet;
 
-/** The public face, and promise 1: a new object. */
+/** The public face, member by member as the document writes it, and promise 1: a new object. */
 public final class FaceTest {
-    private static final Set<String> FACE = new TreeSet<>(Arrays.asList(
-            "put(int)", "clear()", "about(int)", "make()", "length(int)", "byteOf(int,int)", "take(int,int)",
-            "alter(int,int,int)", "feed(long,int)", "read(int)", "unit(int)", "heap(int,int)", "forget(int)"));
+    static final List<String> MEMBERS = List.of(
+            "public static final int NONE = -1;",
+            "public TextParts();",
+            "public int put(int unit) throws IllegalArgumentException, IllegalStateException;",
+            "public int clear();",
+            "public int about(int what) throws IllegalArgumentException;",
+            "public int make() throws UnsupportedOperationException;",
+            "public int length(int part) throws IllegalArgumentException;",
+            "public int byteOf(int part, int i) throws IllegalArgumentException;",
+            "public int take(int sender, int part) throws IllegalArgumentException;",
+            "public int alter(int part, int i, int b) throws IllegalArgumentException;",
+            "public int feed(long w, int n) throws IllegalArgumentException, IllegalStateException;",
+            "public int read(int sender) throws IllegalArgumentException;",
+            "public int unit(int i);",
+            "public int heap(int i, int what) throws IllegalArgumentException;",
+            "public int forget(int sender) throws IllegalArgumentException;");
 
     public static void main(String[] args) {
-        theFace();
+        theClass();
+        for (String member : MEMBERS) {
+            isThere(member);
+        }
+        nothingBeside();
         aNewObject();
         objectsAreApart();
         Check.finish("FaceTest");
     }
 
-    private static void theFace() {
-        Check.due("NONE", TextParts.NONE, -1);
+    static void theClass() {
         Check.due("public final", TextParts.class.getModifiers(), Modifier.PUBLIC | Modifier.FINAL);
-        Set<String> found = new TreeSet<>();
+        Check.dueText("without a package", TextParts.class.getName(), "TextParts");
+        Check.dueText("of no other class", TextParts.class.getSuperclass().getName(), "java.lang.Object");
+        Check.due("of no interface", TextParts.class.getInterfaces().length, 0);
+    }
+
+    /** A member as the document writes it, but for the names of parameters. */
+    static void isThere(String member) {
+        String due = member.replaceAll("(int|long) \\w+([,)])", "$1$2");
+        Check.dueText(member, seenMembers().contains(due) ? "there" : "not there", "there");
+    }
+
+    static void nothingBeside() {
+        Check.due("members that can be seen", seenMembers().size(), MEMBERS.size());
+        Set<String> names = new TreeSet<>();
         for (Method m : TextParts.class.getDeclaredMethods()) {
-            if (!Modifier.isPrivate(m.getModifiers())) {
-                found.add(m.getName() + Arrays.toString(m.getParameterTypes())
-                        .replace('[', '(').replace(']', ')').replace(" ", ""));
-                Check.dueText("the type of " + m.getName(), m.getReturnType().getName(), "int");
+            boolean isNew = names.add(m.getName());
+            Check.dueText("methods of the name " + m.getName(), isNew ? "one" : "more", "one");
+        }
+        for (Class<?> inside : TextParts.class.getDeclaredClasses()) {
+            int modifiers = inside.getModifiers();
+            boolean hidden = !Modifier.isPublic(modifiers) && !Modifier.isProtected(modifiers);
+            Check.dueText("class " + inside.getSimpleName(), hidden && Modifier.isStatic(modifiers) ? "hidden, static"
+                    : "seen or not static", "hidden, static");
+        }
+    }
+
+    /** All members that are not private, written as the document writes its own. */
+    private static List<String> seenMembers() {
+        List<String> seen = new ArrayList<>();
+        for (Field f : TextParts.class.getDeclaredFields()) {
+            if (isSeen(f)) {
+                seen.add(Modifier.toString(f.getModifiers()) + " " + f.getType().getName() + " " + f.getName() + " = "
+                        + TextParts.NONE + ";");
             }
         }
-        Check.dueText("the methods that can be seen", found.toString(), FACE.toString());
-        for (Field f : TextParts.class.getDeclaredFields()) {
-            boolean seen = !Modifier.isPrivate(f.getModifiers());
-            Check.due("field " + f.getName() + " can be seen", seen ? 1 : 0, f.getName().equals("NONE") ? 1 : 0);
+        for (Constructor<?> c : TextParts.class.getDeclaredConstructors()) {
+            if (isSeen(c)) {
+                seen.add(Modifier.toString(c.getModifiers()) + " " + written(c));
+            }
         }
-        Constructor<?>[] made = TextParts.class.getDeclaredConstructors();
-        Check.due("constructors", made.length, 1);
-        Check.due("parameters of the constructor", made[0].getParameterCount(), 0);
+        for (Method m : TextParts.class.getDeclaredMethods()) {
+            if (isSeen(m)) {
+                seen.add(Modifier.toString(m.getModifiers()) + " " + m.getReturnType().getName() + " " + written(m));
+            }
+        }
+        return seen;
+    }
+
+    private static boolean isSeen(Member member) {
+        return !Modifier.isPrivate(member.getModifiers()) && !member.isSynthetic();
+    }
+
+    private static String written(Executable member) {
+        String throwing = listed(member.getExceptionTypes());
+        return member.getName() + "(" + listed(member.getParameterTypes()) + ")"
+                + (throwing.isEmpty() ? "" : " throws " + throwing) + ";";
+    }
+
+    private static String listed(Class<?>[] types) {
+        List<String> names = new ArrayList<>();
+        for (Class<?> type : types) {
+            names.add(type.getSimpleName());
+        }
+        return String.join(", ", names);
     }
 
     private static void aNewObject() {

@@ -370,6 +370,9 @@ public final class ModelTest {
             124, 125, 126, 127, 163, 165, 167, 228, 232, 233, 246, 252, 8364};
         private static final int[] HALVES = {55295, 55296, 56000, 56319, 56320, 57000, 57343, 57344, 97};
 
+        private static final int[] WILD = {Integer.MIN_VALUE, Integer.MIN_VALUE + 1, -65536, -256, -1, 0, 1, 255, 256, 1000,
+            65536, 1 << 28, Integer.MAX_VALUE - 1, Integer.MAX_VALUE};
+
         private final int id;
         private final Random random;
         private final int kindOfText;
@@ -388,7 +391,7 @@ public final class ModelTest {
         void go() {
             int first = random.nextInt(4) * 75;
             for (int k = 0; k < first; k++) {
-                put(unit());
+                put(orWild(unit()));
             }
             while (calls < CALLS) {
                 step();
@@ -399,6 +402,11 @@ public final class ModelTest {
         private void same(String call, Check.Call real, Check.Call due) {
             calls++;
             Check.dueText("run " + id + ", call " + calls + ": " + call, Check.outcome(real), Check.outcome(due));
+        }
+
+        /** The number, or now and then one that is far from all that may be. */
+        private int orWild(int n) {
+            return random.nextInt(150) == 0 ? WILD[random.nextInt(WILD.length)] : n;
         }
 
         private int unit() {
@@ -432,13 +440,13 @@ public final class ModelTest {
         }
 
         private void step() {
-            int i = random.nextInt(160) - 2;
-            int sender = sender();
-            int part = part();
+            int i = orWild(random.nextInt(160) - 2);
+            int sender = orWild(sender());
+            int part = orWild(part());
             switch (random.nextInt(14)) {
                 case 0:
                     for (int k = random.nextInt(12); k > 0; k--) {
-                        put(unit());
+                        put(orWild(unit()));
                     }
                     break;
                 case 1:
@@ -447,7 +455,7 @@ public final class ModelTest {
                     }
                     break;
                 case 2:
-                    int what = random.nextInt(10) - 1;
+                    int what = orWild(random.nextInt(10) - 1);
                     same("about(" + what + ")", () -> x.about(what), () -> model.about(what));
                     break;
                 case 3:
@@ -474,12 +482,12 @@ public final class ModelTest {
                     same("read(" + sender + ")", () -> x.read(sender), () -> model.read(sender));
                     break;
                 case 11:
-                    int unit = random.nextInt(400) - 2;
+                    int unit = orWild(random.nextInt(400) - 2);
                     same("unit(" + unit + ")", () -> x.unit(unit), () -> model.unit(unit));
                     break;
                 case 12:
-                    int at = random.nextInt(19) - 1;
-                    int asked = random.nextInt(20) == 0 ? random.nextInt(8) - 2 : random.nextInt(4);
+                    int at = orWild(random.nextInt(19) - 1);
+                    int asked = orWild(random.nextInt(20) == 0 ? random.nextInt(8) - 2 : random.nextInt(4));
                     same("heap(" + at + ", " + asked + ")", () -> x.heap(at, asked), () -> model.heap(at, asked));
                     break;
                 default:
@@ -491,7 +499,7 @@ public final class ModelTest {
         }
 
         private void alter(int part, int i, int kind) {
-            int b = kind == 0 ? random.nextInt(260) - 2 : kind < 4 ? random.nextInt(6) : 1 << random.nextInt(8);
+            int b = orWild(kind == 0 ? random.nextInt(260) - 2 : kind < 4 ? random.nextInt(6) : 1 << random.nextInt(8));
             same("alter(" + part + ", " + i + ", " + b + ")", () -> x.alter(part, i, b), () -> model.alter(part, i, b));
         }
 
@@ -535,7 +543,7 @@ public final class ModelTest {
                 same("feed(" + fed + ", " + n + ")", () -> x.feed(fed, n), () -> model.feed(fed, n));
             }
             if (random.nextInt(30) == 0) {
-                int n = random.nextInt(13) - 2;
+                int n = orWild(random.nextInt(13) - 2);
                 same("feed(0, " + n + ")", () -> x.feed(0L, n), () -> model.feed(0L, n));
             }
         }

@@ -1,64 +1,15 @@
 /**
- * The boundary cases that the document names in its promises: each sentence has a test of its own, on both
+ * The boundary cases that the document names in its promises: each sentence has tests of its own, on both
  * sides of its edge. No object here has more than the 512 calls for which the document speaks, but for the
  * 3000 units of promise 2, which no fewer calls can put.
  */
-public final class EdgesOfPromisesTest {
+final class EdgesOfPromises {
     private static final Class<IllegalArgumentException> ARGUMENT = IllegalArgumentException.class;
     private static final Class<IllegalStateException> STATE = IllegalStateException.class;
     private static final int LOWEST = Integer.MIN_VALUE;
     private static final int HIGHEST = Integer.MAX_VALUE;
 
-    public static void main(String[] args) {
-        Check.sentence("No text, no parts, an empty inbox, reference 0", EdgesOfPromisesTest::newObject);
-        Check.sentence("put: IllegalArgumentException: it is not 0 .. 65535", EdgesOfPromisesTest::putOfWhatIsNoUnit);
-        Check.sentence("put: IllegalStateException: there are 3000", EdgesOfPromisesTest::putToFull);
-        Check.sentence("clear: The text is empty: how many units there were", EdgesOfPromisesTest::clear);
-        Check.sentence("How many sevens the text takes (NONE if not all is in the alphabet)",
-                EdgesOfPromisesTest::aboutSevens);
-        Check.sentence("how many parts its message would have (0 if more than 255)", EdgesOfPromisesTest::aboutParts);
-        Check.sentence("about: IllegalArgumentException (a what that is none of 0 to 7)",
-                EdgesOfPromisesTest::aboutWhat);
-        Check.sentence("make: The text's message becomes the parts made: how many (of an empty text)",
-                EdgesOfPromisesTest::makeOfNoText);
-        Check.sentence("make: in place of those before", EdgesOfPromisesTest::makeInPlace);
-        Check.sentence("make: a reference is used if there are headers", EdgesOfPromisesTest::makeUsesAReference);
-        Check.sentence("make: UnsupportedOperationException: more than 255", EdgesOfPromisesTest::makeOfMoreThan255);
-        Check.sentence("length: How many bytes a part made has (from 0 on). IllegalArgumentException",
-                EdgesOfPromisesTest::lengthFromZeroOn);
-        Check.sentence("byteOf: Byte i of a part made; NONE behind it", EdgesOfPromisesTest::byteOfBehind);
-        Check.sentence("byteOf: IllegalArgumentException: there is no such part", EdgesOfPromisesTest::byteOfNoPart);
-        Check.sentence("take: 0 if it is kept or dropped, 1 if a text is done by it", EdgesOfPromisesTest::takeAnswers);
-        Check.sentence("take: or the FAULT, below 0", EdgesOfPromisesTest::takeFaults);
-        Check.sentence("take: IllegalArgumentException (a sender that is not 0 .. 999)",
-                EdgesOfPromisesTest::takeOfNoSender);
-        Check.sentence("take: IllegalArgumentException (no such part)", EdgesOfPromisesTest::takeOfNoPart);
-        Check.sentence("alter: IllegalArgumentException (no such part or byte)",
-                EdgesOfPromisesTest::alterOfNoPartOrByte);
-        Check.sentence("alter: IllegalArgumentException (a byte that is not 0 .. 255)",
-                EdgesOfPromisesTest::alterToNoByte);
-        Check.sentence("feed: n bytes come behind those at hand (n = 0)", EdgesOfPromisesTest::feedOfNone);
-        Check.sentence("feed: IllegalArgumentException: n is not 0 .. 8", EdgesOfPromisesTest::feedOfHowMany);
-        Check.sentence("feed: n bytes, the lowest of w first", EdgesOfPromisesTest::feedTheLowestFirst);
-        Check.sentence("feed: IllegalStateException: there would be more than 200", EdgesOfPromisesTest::feedToFull);
-        Check.sentence("read: The bytes at hand are read as a part of a sender, and are gone",
-                EdgesOfPromisesTest::readAndGone);
-        Check.sentence("read: The bytes at hand are read (with none at hand)", EdgesOfPromisesTest::readOfNone);
-        Check.sentence("read: IllegalArgumentException (a sender that is not 0 .. 999)",
-                EdgesOfPromisesTest::readOfNoSender);
-        Check.sentence("unit: Unit i of the latest text that was done; NONE behind it",
-                EdgesOfPromisesTest::unitBehind);
-        Check.sentence("unit: NONE (where no text was done yet)", EdgesOfPromisesTest::unitOfNoText);
-        Check.sentence("heap: Of heap i, the one begun first of all first: its sender, reference, how many parts, how "
-                + "many of them are there",
-                EdgesOfPromisesTest::heapInOrder);
-        Check.sentence("heap: NONE if there is none", EdgesOfPromisesTest::heapOfNone);
-        Check.sentence("heap: IllegalArgumentException: what is none of these", EdgesOfPromisesTest::heapWhat);
-        Check.sentence("forget: All heaps of a sender are gone: how many", EdgesOfPromisesTest::forgetHowMany);
-        Check.sentence("forget: how many (of a sender without one)", EdgesOfPromisesTest::forgetOfNone);
-        Check.sentence("forget: IllegalArgumentException (a sender that is not 0 .. 999)",
-                EdgesOfPromisesTest::forgetOfNoSender);
-        Check.finish("EdgesOfPromisesTest");
+    private EdgesOfPromises() {
     }
 
     private static TextParts withUnits(int unit, int times) {
@@ -82,7 +33,7 @@ public final class EdgesOfPromisesTest {
         return x;
     }
 
-    private static void newObject() {
+    static void newObject() {
         TextParts x = new TextParts();
         Check.dueText("all that a new object tells", Check.state(x), "about 0 1 0 0 0 0 0 0 latest []");
         Check.refused("length(0)", ARGUMENT, () -> x.length(0));
@@ -94,7 +45,7 @@ public final class EdgesOfPromisesTest {
         Check.due("the reference of the first message in parts", x.byteOf(0, 5), 0);
     }
 
-    private static void putOfWhatIsNoUnit() {
+    static void putOfWhatIsNoUnit() {
         TextParts x = new TextParts();
         for (int wrong : new int[] {-1, 65536, LOWEST, HIGHEST}) {
             Check.refused("put(" + wrong + ")", ARGUMENT, () -> x.put(wrong));
@@ -105,7 +56,7 @@ public final class EdgesOfPromisesTest {
         Check.dueText("their part", Check.bytes(x, 0), "[4, 4, 0, 0, 255, 255]");
     }
 
-    private static void putToFull() {
+    static void putToFull() {
         TextParts x = withUnits(97, 2998);
         Check.due("unit number 2999", x.put(97), 2999);
         Check.due("unit number 3000", x.put(97), 3000);
@@ -116,7 +67,7 @@ public final class EdgesOfPromisesTest {
         Check.due("put(97) behind it", x.put(97), 1);
     }
 
-    private static void clear() {
+    static void clear() {
         TextParts x = new TextParts();
         Check.due("clear() of an empty text", x.clear(), 0);
         x.put(97);
@@ -132,7 +83,7 @@ public final class EdgesOfPromisesTest {
         Check.dueText("nothing from before is left", Check.bytes(x, 0), "[0, 1, 98]");
     }
 
-    private static void aboutSevens() {
+    static void aboutSevens() {
         TextParts x = new TextParts();
         Check.due("about(0) of no text", x.about(0), 0);
         Check.puts(x, 97, 8364);
@@ -156,7 +107,7 @@ public final class EdgesOfPromisesTest {
         }
     }
 
-    private static void aboutParts() {
+    static void aboutParts() {
         Check.due("about(1) of no text", new TextParts().about(1), 1);
         Check.due("about(1) of 160 sevens", withUnits(97, 160).about(1), 1);
         Check.due("about(1) of 161 sevens", withUnits(97, 161).about(1), 2);
@@ -169,7 +120,7 @@ public final class EdgesOfPromisesTest {
         Check.due("about(1) of far more", x.about(1), 0);
     }
 
-    private static void aboutWhat() {
+    static void aboutWhat() {
         TextParts x = withTwoParts();
         x.take(1, 0);
         Check.readAll(x, 2, 4, 6, 0, 1, 0, 2, 0, 3);
@@ -185,7 +136,7 @@ public final class EdgesOfPromisesTest {
         }
     }
 
-    private static void makeOfNoText() {
+    static void makeOfNoText() {
         TextParts x = new TextParts();
         Check.due("make()", x.make(), 1);
         Check.due("parts made", x.about(4), 1);
@@ -198,7 +149,7 @@ public final class EdgesOfPromisesTest {
         Check.dueText("its part", Check.bytes(x, 0), "[0, 1, 97]");
     }
 
-    private static void makeInPlace() {
+    static void makeInPlace() {
         TextParts x = withUnits(252, 320);
         Check.due("make()", x.make(), 3);
         x.clear();
@@ -218,7 +169,7 @@ public final class EdgesOfPromisesTest {
         Check.due("byteOf(0, 2)", x.byteOf(0, 2), -1);
     }
 
-    private static void makeUsesAReference() {
+    static void makeUsesAReference() {
         TextParts x = withUnits(97, 160);
         x.make();
         Check.due("the next reference behind 160 sevens", x.about(3), 0);
@@ -238,7 +189,7 @@ public final class EdgesOfPromisesTest {
         Check.due("the next reference behind 71 pairs", y.about(3), 1);
     }
 
-    private static void makeOfMoreThan255() {
+    static void makeOfMoreThan255() {
         TextParts x = new TextParts();
         Check.putManyWithin(x, 1000, 255 * 67);
         Check.due("make() of 255", x.make(), 255);
@@ -250,7 +201,7 @@ public final class EdgesOfPromisesTest {
         Check.due("make() of none behind it", x.make(), 1);
     }
 
-    private static void lengthFromZeroOn() {
+    static void lengthFromZeroOn() {
         TextParts x = new TextParts();
         Check.refused("length(0) of none", ARGUMENT, () -> x.length(0));
         x.make();
@@ -272,7 +223,7 @@ public final class EdgesOfPromisesTest {
         }
     }
 
-    private static void byteOfBehind() {
+    static void byteOfBehind() {
         TextParts x = withTwoParts();
         Check.due("byteOf(0, 0)", x.byteOf(0, 0), 5);
         Check.due("byteOf(0, 141)", x.byteOf(0, 141), 232);
@@ -287,7 +238,7 @@ public final class EdgesOfPromisesTest {
         Check.due("byteOf(1, lowest)", x.byteOf(1, LOWEST), -1);
     }
 
-    private static void byteOfNoPart() {
+    static void byteOfNoPart() {
         TextParts x = new TextParts();
         Check.refused("byteOf(0, 0) of none", ARGUMENT, () -> x.byteOf(0, 0));
         TextParts y = withTwoParts();
@@ -300,7 +251,7 @@ public final class EdgesOfPromisesTest {
         Check.refused("byteOf(1, 0) of a part of the message before", ARGUMENT, () -> less.byteOf(1, 0));
     }
 
-    private static void takeAnswers() {
+    static void takeAnswers() {
         TextParts x = withTwoParts();
         Check.due("kept", x.take(1, 1), 0);
         Check.due("units of the latest text", x.about(6), 0);
@@ -316,7 +267,7 @@ public final class EdgesOfPromisesTest {
         Check.due("units of the latest text", x.about(6), 0);
     }
 
-    private static void takeFaults() {
+    static void takeFaults() {
         // Place, byte and fault; the part is one by pairs, with a header. None made has less than two bytes.
         int[][] pairs = {{0, 2, -2}, {1, 141, -3}, {1, 139, -3}, {2, 4, -4}, {6, 0, -4}, {7, 3, -4}, {7, 2, 0}};
         for (int[] row : pairs) {
@@ -336,7 +287,7 @@ public final class EdgesOfPromisesTest {
         }
     }
 
-    private static void takeOfNoSender() {
+    static void takeOfNoSender() {
         TextParts x = withTwoParts();
         for (int wrong : new int[] {-1, 1000, LOWEST, HIGHEST}) {
             Check.refused("take(" + wrong + ", 0)", ARGUMENT, () -> x.take(wrong, 0));
@@ -347,7 +298,7 @@ public final class EdgesOfPromisesTest {
         Check.dueText("heap 1", Check.heap(x, 1), "999/0/2/1");
     }
 
-    private static void takeOfNoPart() {
+    static void takeOfNoPart() {
         TextParts x = new TextParts();
         Check.refused("take(0, 0) of none", ARGUMENT, () -> x.take(0, 0));
         TextParts y = withTwoParts();
@@ -361,7 +312,7 @@ public final class EdgesOfPromisesTest {
         Check.due("take(0, 0)", y.take(0, 0), 1);
     }
 
-    private static void alterOfNoPartOrByte() {
+    static void alterOfNoPartOrByte() {
         TextParts none = new TextParts();
         Check.refused("alter(0, 0, 0) of none", ARGUMENT, () -> none.alter(0, 0, 0));
         TextParts x = withTwoParts();
@@ -384,7 +335,7 @@ public final class EdgesOfPromisesTest {
         Check.due("length(1)", x.length(1), 16);
     }
 
-    private static void alterToNoByte() {
+    static void alterToNoByte() {
         TextParts x = withUnits(97, 1);
         x.make();
         for (int wrong : new int[] {-1, 256, LOWEST, HIGHEST}) {
@@ -395,7 +346,7 @@ public final class EdgesOfPromisesTest {
         Check.due("byteOf(0, 2)", x.byteOf(0, 2), 0);
     }
 
-    private static void feedOfNone() {
+    static void feedOfNone() {
         TextParts x = new TextParts();
         Check.due("feed(-1, 0)", x.feed(-1L, 0), 0);
         Check.due("bytes at hand", x.about(7), 0);
@@ -405,7 +356,7 @@ public final class EdgesOfPromisesTest {
         Check.due("none came between", x.read(0), 1);
     }
 
-    private static void feedOfHowMany() {
+    static void feedOfHowMany() {
         TextParts x = new TextParts();
         for (int wrong : new int[] {-1, 9, 64, LOWEST, HIGHEST}) {
             Check.refused("feed(0, " + wrong + ")", ARGUMENT, () -> x.feed(0L, wrong));
@@ -418,7 +369,7 @@ public final class EdgesOfPromisesTest {
         }
     }
 
-    private static void feedTheLowestFirst() {
+    static void feedTheLowestFirst() {
         TextParts x = new TextParts();
         x.feed(0xFFFFFFFFFFFF0804L, 2);
         x.feed(0x8081FF007F010203L, 8);
@@ -438,7 +389,7 @@ public final class EdgesOfPromisesTest {
         return x;
     }
 
-    private static void feedToFull() {
+    static void feedToFull() {
         for (int n = 1; n <= 8; n++) {
             int many = n;
             TextParts x = withBytesAtHand(200 - n);
@@ -455,7 +406,7 @@ public final class EdgesOfPromisesTest {
         Check.due("feed behind it", full.feed(0L, 8), 8);
     }
 
-    private static void readAndGone() {
+    static void readAndGone() {
         TextParts x = new TextParts();
         Check.due("read of a fault", Check.readAll(x, 0, 2, 2, 2), -2);
         Check.due("bytes at hand", x.about(7), 0);
@@ -469,7 +420,7 @@ public final class EdgesOfPromisesTest {
         Check.dueText("the text", Check.latest(x), "[400, 500]");
     }
 
-    private static void readOfNone() {
+    static void readOfNone() {
         TextParts x = new TextParts();
         Check.due("read(0)", x.read(0), -1);
         Check.due("bytes at hand", x.about(7), 0);
@@ -482,7 +433,7 @@ public final class EdgesOfPromisesTest {
         Check.due("it does not stay for the next", x.read(0), -1);
     }
 
-    private static void readOfNoSender() {
+    static void readOfNoSender() {
         TextParts x = new TextParts();
         Check.feedAll(x, Check.header(5, 6, 1, 2, 1));
         for (int wrong : new int[] {-1, 1000, LOWEST, HIGHEST}) {
@@ -495,7 +446,7 @@ public final class EdgesOfPromisesTest {
         Check.dueText("heap 1", Check.heap(x, 1), "0/1/2/1");
     }
 
-    private static void unitBehind() {
+    static void unitBehind() {
         TextParts x = new TextParts();
         Check.readAll(x, 0, 4, 6, 0, 97, 255, 255, 0, 0);
         Check.due("unit(0)", x.unit(0), 97);
@@ -516,7 +467,7 @@ public final class EdgesOfPromisesTest {
         Check.due("unit(1) of a shorter text", x.unit(1), -1);
     }
 
-    private static void unitOfNoText() {
+    static void unitOfNoText() {
         TextParts x = withTwoParts();
         Check.due("unit(0)", x.unit(0), -1);
         x.take(0, 0);
@@ -532,7 +483,7 @@ public final class EdgesOfPromisesTest {
         Check.due("unit(0) of a text of none behind another", x.unit(0), -1);
     }
 
-    private static void heapInOrder() {
+    static void heapInOrder() {
         TextParts x = new TextParts();
         Check.readHeaded(x, 999, 255, 3, 2, 1);
         Check.readHeaded(x, 0, 0, 255, 7, 1);
@@ -552,7 +503,7 @@ public final class EdgesOfPromisesTest {
         Check.dueText("the same one begun anew is last", Check.heap(x, 3), "999/255/3/1");
     }
 
-    private static void heapOfNone() {
+    static void heapOfNone() {
         TextParts x = new TextParts();
         Check.dueText("heap 0 of none", Check.heap(x, 0), "-1/-1/-1/-1");
         for (int sender = 1; sender <= 15; sender++) {
@@ -569,7 +520,7 @@ public final class EdgesOfPromisesTest {
         Check.dueText("heap 15 when it is gone", Check.heap(x, 15), "-1/-1/-1/-1");
     }
 
-    private static void heapWhat() {
+    static void heapWhat() {
         TextParts x = new TextParts();
         Check.readHeaded(x, 30, 20, 10, 1, 1);
         int[] due = {30, 20, 10, 1};
@@ -584,7 +535,7 @@ public final class EdgesOfPromisesTest {
         }
     }
 
-    private static void forgetHowMany() {
+    static void forgetHowMany() {
         TextParts x = new TextParts();
         Check.readHeaded(x, 4, 0, 2, 1, 1);
         Check.readHeaded(x, 5, 0, 2, 1, 1);
@@ -607,7 +558,7 @@ public final class EdgesOfPromisesTest {
         Check.due("forget(0)", y.forget(0), 1);
     }
 
-    private static void forgetOfNone() {
+    static void forgetOfNone() {
         TextParts x = new TextParts();
         Check.due("forget(0) of no heap", x.forget(0), 0);
         Check.readHeaded(x, 4, 0, 2, 1, 1);
@@ -621,7 +572,7 @@ public final class EdgesOfPromisesTest {
         Check.dueText("the latest text stays", Check.latest(x), "[98]");
     }
 
-    private static void forgetOfNoSender() {
+    static void forgetOfNoSender() {
         TextParts x = new TextParts();
         Check.readHeaded(x, 0, 0, 2, 1, 1);
         Check.readHeaded(x, 999, 0, 2, 1, 1);

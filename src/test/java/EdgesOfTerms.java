@@ -1,61 +1,14 @@
 import java.util.Arrays;
 
 /**
- * The boundary cases that the document names under "Terms": each sentence has a test of its own, on both
+ * The boundary cases that the document names under "Terms": each sentence has tests of its own, on both
  * sides of its edge. No object here has more than the 512 calls for which the document speaks.
  */
-public final class EdgesOfTermsTest {
+final class EdgesOfTerms {
     private static final Class<IllegalArgumentException> ARGUMENT = IllegalArgumentException.class;
     private static final Class<IllegalStateException> STATE = IllegalStateException.class;
 
-    public static void main(String[] args) {
-        Check.sentence("READ back, a seven that is none of these is 63", EdgesOfTermsTest::sevensThatAreNone);
-        Check.sentence("an escape with a seven that is none of these is that of the seven alone",
-                EdgesOfTermsTest::escapesWithASevenThatIsNone);
-        Check.sentence("an escape at the end is 32", EdgesOfTermsTest::escapesAtTheEnd);
-        Check.sentence("in as few bytes as hold them; bits that are left are 0", EdgesOfTermsTest::bitsThatAreLeft);
-        Check.sentence("One PART if it is not more than 160 sevens, or 140 bytes", EdgesOfTermsTest::onePart);
-        Check.sentence("otherwise parts with HEADERS, each as long as may be, but not more than 153 sevens or 134 "
-                + "bytes",
-                EdgesOfTermsTest::partsWithHeaders);
-        Check.sentence("cut so that what belongs together stays so (an escape and its seven)",
-                EdgesOfTermsTest::togetherByTheAlphabet);
-        Check.sentence("what belongs together with pairs are a unit 55296 .. 56319 and one 56320 .. 57343 behind it",
-                EdgesOfTermsTest::togetherByPairs);
-        Check.sentence("255 parts at most", EdgesOfTermsTest::partsAtMost);
-        Check.sentence("the sevens behind a header begin at bit 49 of the contents, the bit between is 0",
-                EdgesOfTermsTest::theBitBetween);
-        Check.sentence("References are 0, 1, .. and 0 again behind 255, of each message in parts one more",
-                EdgesOfTermsTest::references);
-        Check.sentence("1: there are less than two bytes", EdgesOfTermsTest::fault1);
-        Check.sentence("2: the first one is none of 0, 1, 4, 5", EdgesOfTermsTest::fault2);
-        Check.sentence("3: the second one is above 160 sevens, or not just as many bytes follow as that needs",
-                EdgesOfTermsTest::fault3BySevens);
-        Check.sentence("3: the second one is above 140 bytes, or not just as many bytes follow as that needs",
-                EdgesOfTermsTest::fault3ByPairs);
-        Check.sentence("4: with a header, it is not whole", EdgesOfTermsTest::fault4NotWhole);
-        Check.sentence("4: the first three are not 5, 0, 3", EdgesOfTermsTest::fault4FirstThree);
-        Check.sentence("4: there are 0 parts, the part is 0 or above how many there are",
-                EdgesOfTermsTest::fault4Numbers);
-        Check.sentence("5: by pairs, an odd number of bytes of text", EdgesOfTermsTest::fault5);
-        Check.sentence("6: bits that are left at the end are not 0", EdgesOfTermsTest::fault6AtTheEnd);
-        Check.sentence("6: bits .. that between, are not 0", EdgesOfTermsTest::fault6Between);
-        Check.sentence("READING a part of a sender, the first FAULT that fits", EdgesOfTermsTest::theFirstFault);
-        Check.sentence("with a number that is not in it, is put there; one that is there already is dropped",
-                EdgesOfTermsTest::aPartThatIsThere);
-        Check.sentence("One without a heap begins one; in place of the one to which nothing was put for longest, if "
-                + "there are 16",
-                EdgesOfTermsTest::theHeapThatGivesWay);
-        Check.sentence("in place of the one .., if there are 16 (and no other time)",
-                EdgesOfTermsTest::nothingGivesWayBelowSixteen);
-        Check.sentence("the one to which nothing was put for longest (what is dropped or has a fault is not put)",
-                EdgesOfTermsTest::whatCountsAsPut);
-        Check.sentence("A call that throws changes nothing", EdgesOfTermsTest::callsThatThrow);
-        Check.sentence("A call that throws changes nothing (where there is too much)",
-                EdgesOfTermsTest::fullCallsThatThrow);
-        Check.sentence("A call that throws changes nothing (nor which heap gives way)",
-                EdgesOfTermsTest::throwingIsNotPutting);
-        Check.finish("EdgesOfTermsTest");
+    private EdgesOfTerms() {
     }
 
     /** The text that sevens read back, of a part that has them alone. */
@@ -80,7 +33,7 @@ public final class EdgesOfTermsTest {
         return x;
     }
 
-    private static void sevensThatAreNone() {
+    static void sevensThatAreNone() {
         for (int none : new int[] {6, 7, 8, 9, 11, 12, 14, 15, 16, 18, 26, 28, 29, 30, 31, 36, 64, 91, 92, 93, 94, 96,
             125, 127}) {
             Check.dueText("seven " + none, readBack(none), "[63]");
@@ -94,7 +47,7 @@ public final class EdgesOfTermsTest {
         Check.dueText("sevens without an escape", readBack(20, 40, 47, 61, 64, 101), "[63, 40, 47, 61, 63, 101]");
     }
 
-    private static void escapesWithASevenThatIsNone() {
+    static void escapesWithASevenThatIsNone() {
         int[][] known = {{20, 94}, {40, 123}, {41, 125}, {47, 92}, {60, 91}, {61, 126}, {62, 93}, {64, 124}, {101, 8364}};
         for (int[] row : known) {
             Check.dueText("an escape with " + row[0], readBack(27, row[0], 65), "[" + row[1] + ", 65]");
@@ -110,7 +63,7 @@ public final class EdgesOfTermsTest {
         Check.dueText("an escape with an escape uses both up", readBack(27, 27, 40), "[63, 40]");
     }
 
-    private static void escapesAtTheEnd() {
+    static void escapesAtTheEnd() {
         Check.dueText("an escape alone", readBack(27), "[32]");
         Check.dueText("an escape behind another seven", readBack(65, 27), "[65, 32]");
         Check.dueText("an escape behind one that has its seven", readBack(27, 40, 27), "[123, 32]");
@@ -130,7 +83,7 @@ public final class EdgesOfTermsTest {
         Check.dueText("an escape at the end of part 1 of 2", Check.latest(y), "[32, 40]");
     }
 
-    private static void bitsThatAreLeft() {
+    static void bitsThatAreLeft() {
         TextParts x = new TextParts();
         // The row of bytes was full of other bits before.
         Check.putMany(x, 252, 16);
@@ -154,7 +107,7 @@ public final class EdgesOfTermsTest {
         }
     }
 
-    private static void onePart() {
+    static void onePart() {
         int[][] plain = {{0, 1}, {1, 1}, {159, 1}, {160, 1}, {161, 2}};
         for (int[] row : plain) {
             partsDue(withUnits(97, row[0]), row[0] + " sevens", row[1], 0);
@@ -184,7 +137,7 @@ public final class EdgesOfTermsTest {
         Check.due("the first byte of " + what, x.byteOf(0, 0), pairs + (parts > 1 ? 1 : 0));
     }
 
-    private static void partsWithHeaders() {
+    static void partsWithHeaders() {
         sizesDue(withUnits(97, 161), "161 sevens", 7 + 153, 7 + 8);
         sizesDue(withUnits(97, 305), "305 sevens", 7 + 153, 7 + 152);
         sizesDue(withUnits(97, 306), "306 sevens", 7 + 153, 7 + 153);
@@ -208,7 +161,7 @@ public final class EdgesOfTermsTest {
         Check.refused("a part more of " + what, ARGUMENT, () -> x.length(sizes.length));
     }
 
-    private static void togetherByTheAlphabet() {
+    static void togetherByTheAlphabet() {
         int[][] due = {{150, 160}, {151, 160}, {152, 159}, {153, 160}};
         for (int[] row : due) {
             TextParts x = withUnits(97, row[0]);
@@ -233,7 +186,7 @@ public final class EdgesOfTermsTest {
         sizesDue(z, "an escape where the second part ends", 160, 159, 9);
     }
 
-    private static void togetherByPairs() {
+    static void togetherByPairs() {
         // The units on both sides of where 67 would end, and how many the first part has.
         int[][] due = {{55296, 56320, 66}, {56319, 56320, 66}, {55296, 57343, 66}, {56319, 57343, 66},
             {55295, 56320, 67}, {56320, 56320, 67}, {55296, 56319, 67}, {55296, 57344, 67}, {56320, 55296, 67},
@@ -260,7 +213,7 @@ public final class EdgesOfTermsTest {
         sizesDue(alone, "the last unit has none behind it", 140, 140);
     }
 
-    private static void partsAtMost() {
+    static void partsAtMost() {
         int[][] due = {{97, 153}, {8364, 76}, {1000, 67}};
         for (int[] row : due) {
             TextParts x = new TextParts();
@@ -275,7 +228,7 @@ public final class EdgesOfTermsTest {
         }
     }
 
-    private static void theBitBetween() {
+    static void theBitBetween() {
         int[][] due = {{64, 0}, {163, 1}, {97, 97}, {252, 126}};
         for (int[] row : due) {
             TextParts x = withUnits(row[0], 161);
@@ -288,7 +241,7 @@ public final class EdgesOfTermsTest {
         }
     }
 
-    private static void references() {
+    static void references() {
         TextParts x = withUnits(1000, 71);
         for (int k = 0; k < 258; k++) {
             x.make();
@@ -303,7 +256,7 @@ public final class EdgesOfTermsTest {
         Check.due("a message without headers uses none", x.about(3), 2);
     }
 
-    private static void fault1() {
+    static void fault1() {
         Check.due("no byte", answer(), -1);
         for (int only : new int[] {0, 1, 4, 5}) {
             Check.due("byte " + only + " alone", answer(only), -1);
@@ -312,14 +265,14 @@ public final class EdgesOfTermsTest {
         Check.due("two bytes, by pairs", answer(4, 0), 1);
     }
 
-    private static void fault2() {
+    static void fault2() {
         for (int first = 0; first < 256; first++) {
             boolean known = first == 0 || first == 1 || first == 4 || first == 5;
             Check.due("a first byte " + first, answer(first, 0) == -2 ? 1 : 0, known ? 0 : 1);
         }
     }
 
-    private static void fault3BySevens() {
+    static void fault3BySevens() {
         for (int sevens = 0; sevens <= 160; sevens++) {
             int needed = sevens - sevens / 8;
             Check.due(sevens + " sevens in " + needed + " bytes", answer(Check.zeros(0, sevens, needed)), 1);
@@ -339,7 +292,7 @@ public final class EdgesOfTermsTest {
         Check.due("161 sevens with a header", answer(Arrays.copyOf(header, 143)), -3);
     }
 
-    private static void fault3ByPairs() {
+    static void fault3ByPairs() {
         for (int bytes = 0; bytes <= 140; bytes += 2) {
             Check.due(bytes + " bytes", answer(Check.zeros(4, bytes, bytes)), 1);
             Check.due(bytes + " bytes and one more", answer(Check.zeros(4, bytes, bytes + 1)), -3);
@@ -358,7 +311,7 @@ public final class EdgesOfTermsTest {
         Check.due("142 bytes with a header", answer(Arrays.copyOf(header, 144)), -3);
     }
 
-    private static void fault4NotWhole() {
+    static void fault4NotWhole() {
         int[] pairs = Check.header(5, 6, 0, 2, 1);
         Check.due("6 bytes by pairs", answer(pairs), 0);
         for (int bytes = 0; bytes < 6; bytes++) {
@@ -384,7 +337,7 @@ public final class EdgesOfTermsTest {
         Check.due(what + ", by the alphabet", answer(sevens), due);
     }
 
-    private static void fault4FirstThree() {
+    static void fault4FirstThree() {
         int[] known = {5, 0, 3};
         for (int k = 0; k < known.length; k++) {
             for (int b = 0; b < 256; b++) {
@@ -395,7 +348,7 @@ public final class EdgesOfTermsTest {
         headerDue("reference 255", 5, 255, 0);
     }
 
-    private static void fault4Numbers() {
+    static void fault4Numbers() {
         int[][] due = {{0, 0, -4}, {0, 1, -4}, {1, 0, -4}, {1, 1, 1}, {1, 2, -4}, {2, 0, -4}, {2, 1, 0}, {2, 2, 0},
             {2, 3, -4}, {254, 254, 0}, {254, 255, -4}, {255, 0, -4}, {255, 1, 0}, {255, 255, 0}};
         for (int[] row : due) {
@@ -406,7 +359,7 @@ public final class EdgesOfTermsTest {
         }
     }
 
-    private static void fault5() {
+    static void fault5() {
         for (int bytes = 0; bytes <= 140; bytes++) {
             Check.due(bytes + " bytes", answer(Check.zeros(4, bytes, bytes)), bytes % 2 == 0 ? 1 : -5);
         }
@@ -417,7 +370,7 @@ public final class EdgesOfTermsTest {
         Check.due("an odd number by the alphabet", answer(0, 3, 0, 0, 0), 1);
     }
 
-    private static void fault6AtTheEnd() {
+    static void fault6AtTheEnd() {
         for (int sevens = 1; sevens <= 160; sevens++) {
             int bytes = sevens - sevens / 8;
             int left = 8 * bytes - 7 * sevens;
@@ -440,7 +393,7 @@ public final class EdgesOfTermsTest {
         Check.due("no bits are left by pairs", answer(4, 2, 255, 255), 1);
     }
 
-    private static void fault6Between() {
+    static void fault6Between() {
         int[][] due = {{0, 0}, {1, -6}, {2, 0}, {3, -6}, {254, 0}, {255, -6}};
         for (int[] row : due) {
             Check.due("byte " + row[0] + " behind a header",
@@ -451,7 +404,7 @@ public final class EdgesOfTermsTest {
         Check.due("that bit by pairs", answer(Check.joined(Check.header(5, 8, 0, 2, 1), 1, 1)), 0);
     }
 
-    private static void theFirstFault() {
+    static void theFirstFault() {
         Check.due("1 and 2", answer(9), -1);
         Check.due("2 and 3", answer(2, 161), -2);
         Check.due("2 and 4", answer(7, 6, 5, 0, 3, 0, 0, 0), -2);
@@ -471,7 +424,7 @@ public final class EdgesOfTermsTest {
         Check.due("6 alone", answer(1, 7, 5, 0, 3, 0, 2, 1, 255), -6);
     }
 
-    private static void aPartThatIsThere() {
+    static void aPartThatIsThere() {
         TextParts x = new TextParts();
         Check.due("part 2", Check.readHeaded(x, 5, 6, 3, 2, 20), 0);
         Check.due("part 2 again", Check.readHeaded(x, 5, 6, 3, 2, 21), 0);
@@ -508,7 +461,7 @@ public final class EdgesOfTermsTest {
         return s.toString().trim();
     }
 
-    private static void theHeapThatGivesWay() {
+    static void theHeapThatGivesWay() {
         TextParts x = withHeaps(16);
         Check.dueText("16 heaps", senders(x), "0 1 2 3 4 5 6 7 8 9 10 11 12 13 14 15");
         Check.due("a part of a seventeenth", Check.readHeaded(x, 16, 0, 3, 1, 1), 0);
@@ -529,7 +482,7 @@ public final class EdgesOfTermsTest {
         Check.dueText("it takes a place too", senders(x), "4 5 6 7 8 9 10 11 12 13 14 15 18 19 1 1");
     }
 
-    private static void nothingGivesWayBelowSixteen() {
+    static void nothingGivesWayBelowSixteen() {
         TextParts x = withHeaps(15);
         Check.readHeaded(x, 15, 0, 3, 1, 1);
         Check.due("the sixteenth takes no other's place", x.about(5), 16);
@@ -547,7 +500,7 @@ public final class EdgesOfTermsTest {
         Check.dueText("it begins a heap as any other", senders(x), "2 3 4 5 6 7 8 9 10 11 12 13 14 15 16");
     }
 
-    private static void whatCountsAsPut() {
+    static void whatCountsAsPut() {
         TextParts x = withHeaps(16);
         Check.due("what is there already", Check.readHeaded(x, 0, 0, 3, 1, 2), 0);
         Check.due("what has a fault", Check.readAll(x, 0, 5, 7, 5, 0, 3, 0, 3, 2, 1), -5);
@@ -577,7 +530,7 @@ public final class EdgesOfTermsTest {
         return s.append(' ').append(x.make()).append(' ').append(x.byteOf(1, 17)).toString();
     }
 
-    private static void callsThatThrow() {
+    static void callsThatThrow() {
         TextParts x = withSomeOfAll();
         int last = Integer.MAX_VALUE;
         Check.Call[] wrong = {() -> x.put(-1), () -> x.put(65536), () -> x.about(-1), () -> x.about(8),
@@ -593,7 +546,7 @@ public final class EdgesOfTermsTest {
         Check.dueText("all of the object behind them", allOf(x), allOf(withSomeOfAll()));
     }
 
-    private static void fullCallsThatThrow() {
+    static void fullCallsThatThrow() {
         TextParts hand = new TextParts();
         Check.feedAll(hand, Check.zeros(4, 140, 193));
         Check.refused("feed of 6 to 195", STATE, () -> hand.feed(-1L, 6));
@@ -617,7 +570,7 @@ public final class EdgesOfTermsTest {
         Check.due("units", long255.about(2), 71 + 67 * 255);
     }
 
-    private static void throwingIsNotPutting() {
+    static void throwingIsNotPutting() {
         TextParts x = withHeaps(16);
         Check.feedAll(x, Check.header(5, 6, 0, 3, 2));
         Check.refused("read(1000)", ARGUMENT, () -> x.read(1000));
